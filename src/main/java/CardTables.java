@@ -39,7 +39,7 @@ public final class CardTables {
         aside = new Table(NONE);
         notes = new Notes(false);
         quiet = new Notes(true);
-        ends = new Ends(quiet);
+        ends = new Ends();
     }
 
     // ---- tables and games
@@ -389,7 +389,8 @@ public final class CardTables {
         }
         aside.setTo(table);
         aside.begin(deal.seed, deal.size);
-        for (int k = 0; k < deal.calls.length; k++) {
+        int calls = deal.calls.length;
+        for (int k = 0; k < calls; k++) {
             int call = deal.calls.at(k), what = call >> 10 & 7, s = call >> 8 & 3, a = call >> 2 & 63;
             if (what < LAY) {
                 repeatAside(what, s, a, call & 3);
@@ -559,22 +560,22 @@ public final class CardTables {
     }
 
     /** A TRY at a table with a deal on; what is laid at the table aside is not kept, for keep() passes over it. */
-    private int play(Table table, Notes notes, int what, int s, int i) {
-        notes.tries++;
+    private int play(Table table, Notes told, int what, int s, int i) {
+        told.tries++;
         int finding = table.findingOf(s, i, true);
-        int rule = finding == 0 ? table.ruleAgainst(notes, s, i) : 0;
+        int rule = finding == 0 ? table.ruleAgainst(told, s, i) : 0;
         if (rule != 0 && what == LAY) {
             finding = BARRED;
         }
         if (finding != 0) {
-            notes.find(finding, table.id, s, rule);
+            told.find(finding, table.id, s, rule);
             return -10 - finding;
         }
         keep(table);
         table.deal.calls.add(packed(what, s, i, 0));
         int c = table.layCard(s, i, rule == 1);
         if (table.deal.turn == NONE) {
-            table.endTrick(notes);
+            table.endTrick(told);
         }
         return c;
     }
@@ -601,17 +602,18 @@ public final class CardTables {
         }
 
         void body(int body) {
-            if (!silent) {
-                bodies[Math.floorMod(bodyCount, MOST_NOTES)] = body;
+            int place = bodyCount % MOST_NOTES;
+            if (!silent && place >= 0) {
+                bodies[place] = body;
                 bodyCount++;
             }
         }
 
         void find(int finding, int t, int s, int rule) {
-            if (silent) {
+            int base = findingCount % MOST_NOTES * NOTE_PARTS;
+            if (silent || base < 0) {
                 return;
             }
-            int base = Math.floorMod(findingCount, MOST_NOTES) * NOTE_PARTS;
             findings[base] = finding;
             findings[base + 1] = t;
             findings[base + 2] = s;
@@ -624,14 +626,14 @@ public final class CardTables {
             if (i < 0 || i >= Math.min(bodyCount, MOST_NOTES)) {
                 return NONE;
             }
-            return bodies[Math.floorMod(Math.max(0, bodyCount - MOST_NOTES) + i, MOST_NOTES)];
+            return bodies[(Math.max(0, bodyCount - MOST_NOTES) + i) % MOST_NOTES];
         }
 
         int findingAt(int i, int part) {
             if (i < 0 || i >= Math.min(findingCount, MOST_NOTES) || part < 0 || part >= NOTE_PARTS) {
                 return NONE;
             }
-            int base = Math.floorMod(Math.max(0, findingCount - MOST_NOTES) + i, MOST_NOTES) * NOTE_PARTS;
+            int base = (Math.max(0, findingCount - MOST_NOTES) + i) % MOST_NOTES * NOTE_PARTS;
             return findings[base + part];
         }
     }
@@ -745,13 +747,11 @@ public final class CardTables {
             super(type);
         }
 
-        @Override
         int size(Notes notes, int pack) {
             notes.body(11);
             return pack / 4;
         }
 
-        @Override
         int allows(Notes notes, Table table, Row hand, Row trick, int c) {
             notes.body(21);
             int led = table.colourOf(trick.at(0)), colour = table.colourOf(c);
@@ -759,7 +759,6 @@ public final class CardTables {
             return isFree || !table.holds(hand, led) ? 0 : 1;
         }
 
-        @Override
         int wins(Notes notes, Table table, Row trick) {
             notes.body(31);
             int place = table.firstOf(trick, JOKER);
@@ -773,13 +772,11 @@ public final class CardTables {
             return place;
         }
 
-        @Override
         int score(Notes notes, Table table, Row trick, int winning) {
             notes.body(41);
             return 1;
         }
 
-        @Override
         int settle(Notes notes, Deal deal, int side, int points) {
             notes.body(51);
             return points << deal.doublings;
@@ -791,7 +788,6 @@ public final class CardTables {
             super(type);
         }
 
-        @Override
         int allows(Notes notes, Table table, Row hand, Row trick, int c) {
             notes.body(22);
             int rule = super.allows(notes, table, hand, trick, c);
@@ -802,7 +798,6 @@ public final class CardTables {
             return colour != TRUMP && table.holds(hand, TRUMP) ? 2 : 0;
         }
 
-        @Override
         int score(Notes notes, Table table, Row trick, int winning) {
             notes.body(42);
             int score = super.score(notes, table, trick, winning);
@@ -818,7 +813,6 @@ public final class CardTables {
             super(VOID);
         }
 
-        @Override
         int allows(Notes notes, Table table, Row hand, Row trick, int c) {
             notes.body(23);
             int rule = super.allows(notes, table, hand, trick, c);
@@ -834,14 +828,12 @@ public final class CardTables {
             return 0;
         }
 
-        @Override
         int wins(Notes notes, Table table, Row trick) {
             notes.body(32);
             int led = table.colourOf(trick.at(0));
             return led == JOKER ? 0 : table.strongestOf(trick, led, led);
         }
 
-        @Override
         int score(Notes notes, Table table, Row trick, int winning) {
             notes.body(43);
             int score = 0;
@@ -857,7 +849,6 @@ public final class CardTables {
             super(AUCTION);
         }
 
-        @Override
         int wins(Notes notes, Table table, Row trick) {
             notes.body(33);
             int suit = table.deal.bidSuit;
@@ -868,14 +859,12 @@ public final class CardTables {
             return place == NONE ? super.wins(notes, table, trick) : place;
         }
 
-        @Override
         int score(Notes notes, Table table, Row trick, int winning) {
             notes.body(44);
             int score = super.score(notes, table, trick, winning);
             return (winning & 3) == table.deal.bidSuit ? 2 * score : score;
         }
 
-        @Override
         int settle(Notes notes, Deal deal, int side, int points) {
             notes.body(52);
             int settled = points;
@@ -896,31 +885,26 @@ public final class CardTables {
             this.second = second;
         }
 
-        @Override
         int size(Notes notes, int pack) {
             notes.body(12);
             return Math.max(1, pack / 8);
         }
 
-        @Override
         int allows(Notes notes, Table table, Row hand, Row trick, int c) {
             notes.body(24);
             return first.allows(notes, table, hand, trick, c);
         }
 
-        @Override
         int wins(Notes notes, Table table, Row trick) {
             notes.body(34);
             return first.wins(notes, table, trick);
         }
 
-        @Override
         int score(Notes notes, Table table, Row trick, int winning) {
             notes.body(45);
             return second.score(notes, table, trick, winning) + 1;
         }
 
-        @Override
         int settle(Notes notes, Deal deal, int side, int points) {
             notes.body(53);
             return second.settle(notes, deal, side, points);
@@ -1403,7 +1387,7 @@ public final class CardTables {
         private static final int[] RANKS = {0, 0, 1, 0, 2, 1, 2, 0, 3, 3, 4, 1, 5, 2, 3, 0};
         private static final int MOST_LAID = SEATS * END_CARDS, MOST_STARTS = END_CARDS * SEATS * 1296;
 
-        final Notes quiet;
+        final Notes quiet = new Notes(true);
         final int[] bests = new int[MOST_STARTS];
         final int[] sures = new int[MOST_STARTS];
         final int[] bits = new int[CARDS];
@@ -1413,8 +1397,7 @@ public final class CardTables {
         Table table;
         int side, toCome, at, won, stamp;
 
-        Ends(Notes quiet) {
-            this.quiet = quiet;
+        Ends() {
             for (int s = 0; s < SEATS; s++) {
                 hands[s] = new Row(END_CARDS);
             }
@@ -1469,7 +1452,7 @@ public final class CardTables {
         }
 
         /** Four times the tricks that are best from here on, and the least place that keeps them. */
-        int choose(int seat, int depth) {
+        private int choose(int seat, int depth) {
             Game game = table == null ? null : table.game;
             if (game == null || !isSeat(seat) || depth >= MOST_LAID) {
                 return 0;
@@ -1480,8 +1463,8 @@ public final class CardTables {
             }
             boolean isOwn = (seat & 1) == side;
             Row hand = hands[seat], trick = tricks[at];
-            int chosen = NONE;
-            for (int i = 0; i < hand.length; i++) {
+            int chosen = NONE, length = hand.length;
+            for (int i = 0; i < length; i++) {
                 if (game.allows(quiet, table, hand, trick, hand.at(i)) != 0) {
                     continue;
                 }
@@ -1503,7 +1486,7 @@ public final class CardTables {
         }
 
         /** The tricks from here on that the side has at least, if its seats lay by the line's rule. */
-        int sureFrom(int seat, int depth) {
+        private int sureFrom(int seat, int depth) {
             Game game = table == null ? null : table.game;
             if (game == null || !isSeat(seat) || depth >= MOST_LAID) {
                 return 0;
@@ -1514,8 +1497,8 @@ public final class CardTables {
             }
             int byLine = (seat & 1) == side ? choose(seat, depth) & 3 : NONE;
             Row hand = hands[seat], trick = tricks[at];
-            int least = toCome - at;
-            for (int i = 0; i < hand.length; i++) {
+            int least = toCome - at, length = hand.length;
+            for (int i = 0; i < length; i++) {
                 boolean lays = byLine == NONE
                         ? game.allows(quiet, table, hand, trick, hand.at(i)) == 0 : i == byLine;
                 if (lays) {
