@@ -11,10 +11,14 @@ final class Script {
 
     static void run(String title, String text) {
         CardTables x = new CardTables();
-        for (String row : text.split("[;\n]")) {
-            String line = row.strip();
-            if (!line.isEmpty() && !line.startsWith("#")) {
-                due(title, x, line);
+        for (String line : text.split("\n")) {
+            if (line.strip().startsWith("#")) {
+                continue;
+            }
+            for (String call : line.split(";")) {
+                if (!call.isBlank()) {
+                    due(title, x, call.strip());
+                }
             }
         }
     }
@@ -26,8 +30,8 @@ final class Script {
         }
     }
 
-    private static void due(String title, CardTables x, String line) {
-        String[] halves = line.split("=");
+    private static void due(String title, CardTables x, String call) {
+        String[] halves = call.split("=");
         int want = Integer.parseInt(halves[1].strip());
         String got;
         try {
