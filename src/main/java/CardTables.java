@@ -333,7 +333,7 @@ public final class CardTables {
             return STATE;
         }
         ends.begin(table, side);
-        int best = ends.choose(table.deal.turn, 0) >> 2;
+        int best = ends.bestFrom(table.deal.turn, 0);
         return ends.sureFrom(table.deal.turn, 0) >= best ? 1 : 0;
     }
 
@@ -740,6 +740,9 @@ public final class CardTables {
         abstract int score(Notes notes, Table table, Row trick, int winning);
 
         abstract int settle(Notes notes, Deal deal, int side, int points);
+
+        /** The game whose word on what is allowed, and on what wins, is this one's. */
+        abstract Follow player();
     }
 
     private static class Follow extends Game {
@@ -756,7 +759,7 @@ public final class CardTables {
             notes.body(21);
             int led = table.colourOf(trick.at(0)), colour = table.colourOf(c);
             boolean isFree = colour == JOKER || trick.length == 0 || led == JOKER || colour == led;
-            return isFree || !table.holds(hand, led) ? 0 : 1;
+            return isFree || table.firstOf(hand, led) == NONE ? 0 : 1;
         }
 
         int wins(Notes notes, Table table, Row trick) {
@@ -781,6 +784,10 @@ public final class CardTables {
             notes.body(51);
             return points << deal.doublings;
         }
+
+        Follow player() {
+            return this;
+        }
     }
 
     private static class Must extends Follow {
@@ -792,10 +799,11 @@ public final class CardTables {
             notes.body(22);
             int rule = super.allows(notes, table, hand, trick, c);
             int led = table.colourOf(trick.at(0)), colour = table.colourOf(c);
-            if (rule != 0 || colour == JOKER || trick.length == 0 || led == JOKER || table.holds(hand, led)) {
+            boolean isFree = colour == JOKER || trick.length == 0 || led == JOKER || colour == TRUMP;
+            if (rule != 0 || isFree || table.firstOf(hand, led) != NONE) {
                 return rule;
             }
-            return colour != TRUMP && table.holds(hand, TRUMP) ? 2 : 0;
+            return table.firstOf(hand, TRUMP) == NONE ? 0 : 2;
         }
 
         int score(Notes notes, Table table, Row trick, int winning) {
@@ -853,7 +861,7 @@ public final class CardTables {
             notes.body(33);
             int suit = table.deal.bidSuit;
             int place = NONE;
-            if (suit != NONE && !table.holds(trick, JOKER)) {
+            if (suit != NONE && table.firstOf(trick, JOKER) == NONE) {
                 place = table.strongestOf(trick, TRUMP, suit);
             }
             return place == NONE ? super.wins(notes, table, trick) : place;
@@ -908,6 +916,10 @@ public final class CardTables {
         int settle(Notes notes, Deal deal, int side, int points) {
             notes.body(53);
             return second.settle(notes, deal, side, points);
+        }
+
+        Follow player() {
+            return first;
         }
     }
 
@@ -1091,10 +1103,6 @@ public final class CardTables {
 
         int colourOf(int c) {
             return c >= 0 && c < CARDS ? colours[c] : NONE;
-        }
-
-        boolean holds(Row row, int colour) {
-            return firstOf(row, colour) != NONE;
         }
 
         /** The first place of a row with a card of a colour, NONE without one. */
@@ -1346,7 +1354,7 @@ public final class CardTables {
         boolean isEnd() {
             boolean isEnd = isOn() && trick.length == 0;
             for (int s = 0; s < SEATS && isEnd; s++) {
-                isEnd = hands[s].length <= END_CARDS && !holds(hands[s], BLANK);
+                isEnd = hands[s].length <= END_CARDS && firstOf(hands[s], BLANK) == NONE;
             }
             return isEnd;
         }
@@ -1388,13 +1396,14 @@ public final class CardTables {
         private static final int MOST_LAID = SEATS * END_CARDS, MOST_STARTS = END_CARDS * SEATS * 1296;
 
         final Notes quiet = new Notes(true);
-        final int[] bests = new int[MOST_STARTS];
+        final int[] bounds = new int[MOST_STARTS];
         final int[] sures = new int[MOST_STARTS];
         final int[] bits = new int[CARDS];
         final Row[] hands = new Row[SEATS];
         final Row[] tricks = new Row[END_CARDS + 1];
         final Row[] layers = new Row[END_CARDS + 1];
         Table table;
+        Follow game;
         int side, toCome, at, won, stamp;
 
         Ends() {
@@ -1410,6 +1419,7 @@ public final class CardTables {
         void begin(Table table, int side) {
             this.table = table;
             this.side = side;
+            game = table.game == null ? null : table.game.player();
             stamp++;
             at = 0;
             won = 0;
@@ -1435,14 +1445,14 @@ public final class CardTables {
 
         int bestOf(Table table, int side) {
             begin(table, side);
-            return choose(table.deal.turn, 0) >> 2;
+            return bestFrom(table.deal.turn, 0);
         }
 
         int lineCard(Table table, int side, int k) {
             begin(table, side);
-            int seat = table.deal.turn;
+            int seat = table.deal.turn, best = bestFrom(seat, 0);
             for (int laid = 0; laid < MOST_LAID && isSeat(seat); laid++) {
-                int i = choose(seat, laid) & 3;
+                int i = linePlace(seat, best - won, laid);
                 if (laid == k) {
                     return hands[seat].at(i);
                 }
@@ -1451,66 +1461,90 @@ public final class CardTables {
             return NONE;
         }
 
-        /** Four times the tricks that are best from here on, and the least place that keeps them. */
-        private int choose(int seat, int depth) {
-            Game game = table == null ? null : table.game;
-            if (game == null || !isSeat(seat) || depth >= MOST_LAID) {
-                return 0;
+        int bestFrom(int seat, int depth) {
+            int best = toCome - at;
+            while (best > 0 && !reaches(seat, best, depth)) {
+                best--;
             }
-            int key = keyOf(seat);
-            if (key != NONE && bests[key] >> 5 == stamp) {
-                return bests[key] & 31;
+            return best;
+        }
+
+        /** Whether the side can be sure of so many of the tricks from here on, the seat having the turn. */
+        private boolean reaches(int seat, int need, int depth) {
+            if (need <= 0 || need > toCome - at || !isSeat(seat) || depth >= MOST_LAID || game == null) {
+                return need <= 0;
             }
-            boolean isOwn = (seat & 1) == side;
-            Row hand = hands[seat], trick = tricks[at];
-            int chosen = NONE, length = hand.length;
-            for (int i = 0; i < length; i++) {
-                if (game.allows(quiet, table, hand, trick, hand.at(i)) != 0) {
-                    continue;
-                }
-                int before = won, next = forward(seat, i);
-                int value = won - before + (choose(next, depth + 1) >> 2);
-                back(seat, i, before);
-                if (chosen == NONE || (isOwn ? value > chosen >> 2 : value < chosen >> 2)) {
-                    chosen = value << 2 | i;
-                }
-                if (isOwn ? value >= toCome - at : value <= 0) {
-                    break;
+            int key = keyOf(seat), known = boundsAt(key), reachable = known >> 3, unreachable = known & 7;
+            if (need <= reachable || need >= unreachable) {
+                return need <= reachable;
+            }
+            // One card is enough for the side's own seats; those of the other side must fail with all of theirs.
+            boolean isOwn = (seat & 1) == side, reached = !isOwn;
+            int length = hands[seat].length;
+            for (int i = 0; i < length && reached != isOwn; i++) {
+                if (lets(seat, i)) {
+                    int before = won, next = forward(seat, i);
+                    reached = reaches(next, need - won + before, depth + 1);
+                    back(seat, i, before);
                 }
             }
-            chosen = Math.max(0, chosen);
             if (key != NONE) {
-                bests[key] = stamp << 5 | chosen;
+                bounds[key] = stamp << 6 | (reached ? need << 3 | unreachable : reachable << 3 | need);
             }
-            return chosen;
+            return reached;
+        }
+
+        /** Eight times the tricks that are known to be reached, and the fewest that are known not to be. */
+        private int boundsAt(int key) {
+            boolean isKnown = key >= 0 && key < MOST_STARTS && bounds[key] >> 6 == stamp;
+            return isKnown ? bounds[key] & 63 : toCome - at + 1;
+        }
+
+        /** The least place that keeps what is best from here on, NONE without one. */
+        private int linePlace(int seat, int best, int depth) {
+            boolean isOwn = (seat & 1) == side;
+            int length = hands[seat & 3].length;
+            for (int i = 0; i < length; i++) {
+                if (lets(seat, i)) {
+                    int before = won, next = forward(seat, i), need = best - won + before;
+                    boolean keeps = isOwn ? reaches(next, need, depth + 1) : !reaches(next, need + 1, depth + 1);
+                    back(seat, i, before);
+                    if (keeps) {
+                        return i;
+                    }
+                }
+            }
+            return NONE;
         }
 
         /** The tricks from here on that the side has at least, if its seats lay by the line's rule. */
         private int sureFrom(int seat, int depth) {
-            Game game = table == null ? null : table.game;
-            if (game == null || !isSeat(seat) || depth >= MOST_LAID) {
+            if (!isSeat(seat) || depth >= MOST_LAID) {
                 return 0;
             }
             int key = keyOf(seat);
-            if (key != NONE && sures[key] >> 5 == stamp) {
-                return sures[key] & 31;
+            if (key != NONE && sures[key] >> 3 == stamp) {
+                return sures[key] & 7;
             }
-            int byLine = (seat & 1) == side ? choose(seat, depth) & 3 : NONE;
-            Row hand = hands[seat], trick = tricks[at];
-            int least = toCome - at, length = hand.length;
+            boolean isOwn = (seat & 1) == side;
+            int byLine = isOwn ? linePlace(seat, bestFrom(seat, depth), depth) : NONE;
+            int least = toCome - at, length = hands[seat].length;
             for (int i = 0; i < length; i++) {
-                boolean lays = byLine == NONE
-                        ? game.allows(quiet, table, hand, trick, hand.at(i)) == 0 : i == byLine;
-                if (lays) {
+                if (isOwn ? i == byLine : lets(seat, i)) {
                     int before = won, next = forward(seat, i);
                     least = Math.min(least, won - before + sureFrom(next, depth + 1));
                     back(seat, i, before);
                 }
             }
             if (key != NONE) {
-                sures[key] = stamp << 5 | least;
+                sures[key] = stamp << 3 | least;
             }
             return least;
+        }
+
+        private boolean lets(int seat, int i) {
+            Row hand = hands[seat & 3];
+            return game != null && game.allows(quiet, table, hand, tricks[at], hand.at(i)) == 0;
         }
 
         /** A number for what the start of a trick depends on; NONE within a trick. */
@@ -1547,10 +1581,10 @@ public final class CardTables {
             trick.add(hands[seat & 3].takeAt(i));
             layer.add(seat);
             int next = nextAble(seat + 1);
-            if (next != NONE || table == null || table.game == null) {
+            if (next != NONE || game == null) {
                 return next;
             }
-            int winner = layer.at(table.game.wins(quiet, table, trick));
+            int winner = layer.at(game.wins(quiet, table, trick));
             won += (winner & 1) == side ? 1 : 0;
             at = Math.min(at + 1, END_CARDS);
             return nextAble(winner);
