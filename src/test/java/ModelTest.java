@@ -59,7 +59,7 @@ public final class ModelTest {
 
     private int any() {
         int[] odd = {-1, 0, 1, 2, 3, 4, 5, 6, 7, 59, 60, 61, 200, Integer.MAX_VALUE, Integer.MIN_VALUE};
-        return odd[chance.nextInt(odd.length)];
+        return chance.nextInt(12) == 0 ? chance.nextInt() : odd[chance.nextInt(odd.length)];
     }
 
     private int cardOf(int t) {
