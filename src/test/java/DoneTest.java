@@ -6,6 +6,7 @@ public final class DoneTest {
         playedOver();
         playedOverChanged();
         playedOverLong();
+        playedOverBids();
         digests();
         findingsKept();
         traceKept();
@@ -48,6 +49,14 @@ public final class DoneTest {
             deal 0 1 0 = 2; undo 0 = 3; status 0 2 = 0; status 0 1 = 1; count 2 = 2; kind 0 7 2 = 2
             undo 0 = 2; sum 0 0 = 0; status 0 2 = 1; kind 0 7 0 = 0; seat 0 1 true = -4; status 0 0 = 1; left 0 2 = -1
             left 0 1 = 0; lay 0 0 0 = 0; sum 0 0 = 1; match 0 9 = 1
+            """);
+        Script.run("29 the tricks of an earlier deal come back, with their scores and cards", """
+            game 0 1 0 0 = 1; table 0 16 0 = 1; seat 0 1 false = 1; kind 0 15 1 = 0; deal 0 1 0 = 1
+            give 0 0 12 = 1; give 0 0 5 = 2; give 0 2 3 = 1; give 0 2 8 = 2
+            lay 0 0 0 = 12; revoke 0 2 0 = 3; lay 0 0 0 = 5; lay 0 2 0 = 8; won 0 1 0 = 1; won 0 1 1 = 1; card 0 3 = 7
+            deal 0 1 0 = 2; give 0 0 15 = 1; lay 0 0 0 = 15; won 0 0 1 = 2; undo 0 = 7; undo 0 = 6; undo 0 = 5; undo 0 = 4
+            won 0 0 1 = 1; won 0 1 1 = 0; revokes 0 2 1 = 0; lay 0 2 0 = 8; won 0 1 1 = 1; won 0 0 1 = 1; revokes 0 2 1 = 1
+            card 0 12 = 7; card 0 3 = 7; card 0 5 = 6; card 0 8 = 6; won 0 1 2 = 2; won 0 0 2 = 2
             """);
         Script.run("29 each table has its own; table() keeps none", """
             game 0 0 0 0 = 1; table 0 8 0 = 1; table 1 8 0 = 1; deal 0 1 -1 = 1; deal 1 1 -1 = 2; lay 1 0 0 = CARD
@@ -96,6 +105,14 @@ public final class DoneTest {
         Script.run("30 kinds as they are now, of cards that were not played", ended + """
             kind 0 9 1 = 0; kind 0 11 3 = 0; replay 0 = 1
             """);
+        int[] mixed = Mixed.cards(8, 3);
+        StringBuilder blanks = new StringBuilder("game 0 0 0 0 = 1; table 0 8 0 = 1;");
+        for (int c = 0; c < 8; c++) {
+            blanks.append(c == mixed[0] ? "" : "kind 0 " + c + " 3 = 0;");
+        }
+        blanks.append("deal 0 3 1 = 1; lay 0 0 0 = " + mixed[0] + "; status 0 0 = 2; replay 0 = 1; left 0 4 = 4;");
+        Script.run("30 the rest in order: the blank of seat 3 is behind it, but would be in front of it", blanks
+            + "seat 0 3 false = 1; left 0 4 = 5; replay 0 = 0; seat 0 3 true = 0; replay 0 = 0; undo 0 = 1; replay 0 = 1");
         Script.run("30 kinds as they are now: a hand that gave way to the rest", """
             game 0 0 0 0 = 1; table 0 8 0 = 1; kind 0 7 3 = 0; deal 0 1 0 = 1; give 0 0 0 = 1; give 0 1 7 = 1; lay 0 0 0 = 0
             seat 0 1 false = 1; seat 0 1 true = 0; replay 0 = 0; undo 0 = 3; replay 0 = 1
@@ -125,6 +142,19 @@ public final class DoneTest {
             }
         }
         Script.run("30 of more than 100 calls it is 0", text + "replay 0 = 0; undo 0 = 7; replay 0 = 1; status 0 3 = 10");
+    }
+
+    private static void playedOverBids() {
+        StringBuilder text = new StringBuilder("game 0 3 0 0 = 1; table 0 60 0 = 1; deal 0 1 0 = 1;");
+        for (int c = 0; c < 60; c++) {
+            text.append("give 0 " + c / 15 + " " + c + " = " + (c % 15 + 1) + ";");
+        }
+        for (int n = 0; n < 38; n++) {
+            text.append("bid 0 0 " + (n / 4 + 1) + " " + n % 4 + " = 1;");
+        }
+        Script.run("30 bids and doublings are among the 100", text + """
+            doubled 0 1 = 1; doubled 0 2 = 2; replay 0 = 1; lay 0 0 0 = 0; replay 0 = 0; undo 0 = 7; replay 0 = 1
+            """);
     }
 
     private static int digestOf(int... numbers) {

@@ -98,6 +98,7 @@ public final class EndsTest {
             game 0 3 0 0 = 1; table 0 16 0 = 1; deal 0 1 0 = 1; give 0 0 0 = 1; give 0 0 5 = 2; give 0 1 12 = 1; give 0 1 13 = 2
             bid 0 3 2 3 = 1; doubled 0 0 = 1; lay 0 0 0 = 0; lay 0 1 0 = 12; won 0 1 0 = 1; winner 0 = 1
             claim 0 1 1 = 1; winner 0 = 1; won 0 1 0 = 2; won 0 1 1 = 2; won 0 0 0 = 0; sum 0 1 = 22; sum 0 3 = 22; tie 0 = 1
+            card 0 5 = 7; card 0 13 = 7; won 0 1 2 = 4; won 0 0 2 = 0
             """);
         Script.run("28 finding 7 comes with a claim, too", """
             game 0 0 0 0 = 1; table 2 16 0 = 1; seat 2 0 false = 1; seat 2 2 false = 1; deal 2 1 0 = 1; give 2 1 0 = 1
