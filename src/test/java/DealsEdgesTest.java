@@ -280,6 +280,14 @@ public final class DealsEdgesTest {
         Script.run("FOUND once: a second CARD of the COLOUR finds no more", revoked + """
             lay 0 0 0 = 9; lay 0 2 0 = 0; lay 0 0 0 = 13; lay 0 2 0 = 4; revokes 0 2 0 = 1; revokes 0 2 1 = 1; won 0 0 0 = 2; won 0 1 0 = 1; status 0 0 = 2
             """);
+        Script.run("FOUND, taken back, and FOUND again", revoked + """
+            lay 0 0 0 = 9; lay 0 2 0 = 0; revokes 0 2 1 = 1; won 0 1 0 = 1; undo 0 = 7; revokes 0 2 1 = 0; won 0 1 0 = 0; won 0 0 0 = 1; card 0 12 = 6
+            lay 0 2 0 = 0; revokes 0 2 1 = 1; won 0 1 0 = 1; won 0 0 0 = 1; card 0 12 = 7; card 0 1 = 7
+            """);
+        Script.run("its CARDS are the other SIDE's: the first CARD and the last", "game 0 0 0 0 = 1; table 0 60 0 = 1;" + """
+            deal 0 1 0 = 1; give 0 0 0 = 1; give 0 0 1 = 2; give 0 2 59 = 1; give 0 2 4 = 2; lay 0 0 0 = 0; revoke 0 2 0 = 59; won 0 0 2 = 2; lay 0 0 0 = 1; lay 0 2 0 = 4
+            card 0 0 = 7; card 0 59 = 7; card 0 1 = 6; card 0 4 = 6; won 0 0 2 = 2; won 0 1 2 = 2
+            """);
         Script.run("not FOUND by another SEAT's CARD of the COLOUR, nor in another COLOUR", TABLE + """
             deal 0 1 0 = 1; give 0 0 12 = 1; give 0 0 8 = 2; give 0 1 4 = 1; give 0 1 6 = 2; give 0 2 1 = 1; give 0 2 2 = 2; give 0 2 0 = 3
             lay 0 0 0 = 12; lay 0 1 0 = 4; revoke 0 2 0 = 1; lay 0 0 0 = 8; lay 0 1 0 = 6; revokes 0 2 1 = 0; revoke 0 2 0 = 2; revokes 0 2 0 = 2; revokes 0 2 1 = 0; won 0 0 0 = 2

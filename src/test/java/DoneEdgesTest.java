@@ -10,6 +10,7 @@ public final class DoneEdgesTest {
         stays();
         keptAround();
         playedOver();
+        playedOverEach();
         playedOverHundred();
         playedOverNow();
         digests();
@@ -46,6 +47,11 @@ public final class DoneEdgesTest {
     private static void allOfIt() {
         Script.run("all of it: SEATS", TABLE + """
             deal 0 1 0 = 1; give 0 0 0 = 1; lay 0 0 0 = 0; seat 0 1 false = 1; seat 0 2 false = 1; undo 0 = 2; lay 0 0 0 = 0; seat 0 1 true = 1; seat 0 2 true = 1; left 0 1 = 0
+            """);
+        Script.run("all of it: THE TRICK, and who laid what to it", TABLE + """
+            deal 0 1 0 = 1; give 0 0 0 = 1; give 0 1 12 = 1; give 0 1 1 = 2; give 0 2 4 = 1; give 0 3 8 = 1; lay 0 0 0 = 0; lay 0 1 0 = 12; lay 0 2 0 = 4; lay 0 3 0 = 8; winner 0 = 1
+            undo 0 = 7; trick 0 0 = 0; trick 0 1 = 12; trick 0 2 = 4; trick 0 3 = -1; turn 0 = 3; lay 0 3 0 = 8; winner 0 = 1; turn 0 = 1; undo 0 = 7; undo 0 = 6; undo 0 = 5; turn 0 = 1
+            lay 0 1 0 = 12; turn 0 = 2; lay 0 2 0 = 4; lay 0 3 0 = 8; winner 0 = 1; won 0 1 2 = 4
             """);
         Script.run("all of it: KINDS", TABLE + """
             kind 0 9 1 = 0; deal 0 1 0 = 1; kind 0 9 2 = 1; kind 0 8 3 = 0; undo 0 = 0; kind 0 9 0 = 1; kind 0 8 0 = 0
@@ -90,6 +96,28 @@ public final class DoneEdgesTest {
             deal 0 1 0 = 1; give 0 0 0 = 1; give 0 1 4 = 1; lay 0 0 0 = 0; forget = 2; replay 0 = 1; replay 0 = 1; forget = 0; count 0 = 1; count 1 = 0; count 2 = 1; status 0 2 = 1
             status 0 8 = 4; trick 0 0 = 0; turn 0 = 1; left 0 1 = 1; lay 0 1 0 = 4; sum 0 1 = 0; replay 0 = 1; winner 0 = 1
             """);
+    }
+
+    private static void playedOverEach() {
+        for (int suit = 0; suit < 4; suit++) {
+            // Each seat lays a card of a suit of its own, so that the bid alone tells who wins.
+            Script.run("replay(): a bid of SUIT " + suit, "game 0 3 0 0 = 1; table 0 16 0 = 1;" + """
+                deal 0 1 0 = 1; give 0 0 0 = 1; give 0 0 4 = 2; give 0 1 1 = 1; give 0 1 5 = 2; give 0 2 2 = 1; give 0 2 6 = 2; give 0 3 3 = 1; give 0 3 7 = 2; bid 0 0 1 SUIT = 1
+                lay 0 0 0 = 0; lay 0 1 0 = 1; lay 0 2 0 = 2; lay 0 3 0 = 3; winner 0 = SUIT; turn 0 = SUIT; won 0 SIDE 1 = 2; replay 0 = 1
+                """.replace("SUIT", "" + suit).replace("SIDE", "" + suit % 2));
+        }
+        for (int side = 0; side < 2; side++) {
+            Script.run("replay(): a claim of SIDE " + side, TABLE + """
+                deal 0 1 0 = 1; give 0 0 12 = 1; give 0 0 1 = 2; give 0 1 8 = 1; give 0 1 13 = 2; best 0 0 = 1; best 0 1 = 1; claim 0 SIDE 1 = 1; won 0 SIDE 2 = 4; replay 0 = 1
+                """.replace("SIDE", "" + side));
+            Script.run("replay(): a claim of SIDE " + side + " that was wrong", TABLE + """
+                deal 0 1 0 = 1; give 0 0 12 = 1; give 0 0 1 = 2; give 0 1 8 = 1; give 0 1 13 = 2; claim 0 SIDE 2 = 0; replay 0 = 1; lay 0 0 0 = 12; replay 0 = 1
+                """.replace("SIDE", "" + side));
+        }
+        for (int s = 0; s < 4; s++) {
+            String text = TABLE + "deal 0 1 0 = 1; give 0 T 0 = 1; lay 0 T 0 = 0; status 0 0 = 2; replay 0 = 1; seat 0 S false = 1; replay 0 = 1; seat 0 S true = 0; replay 0 = 0";
+            Script.run("replay(): like HANDS: that of SEAT " + s, text.replace("S", "" + s).replace("T", "" + (s + 1) % 4));
+        }
     }
 
     /** Gifts, bids and doublings as many as are asked for, none of them refused. */

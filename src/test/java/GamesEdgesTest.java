@@ -134,6 +134,10 @@ public final class GamesEdgesTest {
             deal 0 1 0 = 1; give 0 0 3 = 1; give 0 0 0 = 2; give 0 1 7 = 1; give 0 1 2 = 2
             allowed 0 0 0 = 3; allowed 0 0 1 = 0; lay 0 0 0 = -16; finding 0 3 = 3; lay 0 0 1 = 0; allowed 0 1 0 = 0; allowed 0 1 1 = 0
             """);
+        Script.run("23: a PLAYABLE CARD that is not, at the first place or the last", game(2) + """
+            deal 0 1 0 = 1; give 0 0 0 = 1; give 0 0 3 = 2; give 0 0 7 = 3; give 0 1 11 = 1; give 0 1 15 = 2; give 0 1 2 = 3
+            allowed 0 0 0 = 0; allowed 0 0 1 = 3; allowed 0 0 2 = 3; allowed 0 1 0 = 3; allowed 0 1 1 = 3; allowed 0 1 2 = 0
+            """);
         Script.run("23: all of COLOUR 3, and a BLANK", game(2) + """
             kind 0 0 3 = 0; deal 0 1 0 = 1; give 0 0 3 = 1; give 0 0 7 = 2; give 0 0 0 = 3; allowed 0 0 0 = 0; allowed 0 0 1 = 0; lay 0 0 1 = 7
             """);

@@ -109,6 +109,10 @@ public final class TablesEdgesTest {
             table 0 4 0 = 1; table 1 4 0 = 1; kind 0 3 -1 = -3; kind 0 3 4 = -3; kind 0 3 2147483647 = -3; kind 0 3 -2147483648 = -3
             kind 0 3 3 = 0; kind 1 3 0 = 0; kind 0 3 0 = 3; kind 0 3 0 = 0
             """);
+        Script.run("KINDS: PLAIN again, a CARD is of its SUIT again", GAME + """
+            table 0 16 0 = 1; kind 0 7 1 = 0; kind 0 7 0 = 1; kind 0 5 2 = 0; kind 0 5 0 = 2; deal 0 1 0 = 1; give 0 0 3 = 1; give 0 0 1 = 2; give 0 1 7 = 1; give 0 1 5 = 2; give 0 1 6 = 3
+            lay 0 0 0 = 3; allowed 0 1 2 = 1; allowed 0 1 1 = 1; lay 0 1 0 = 7; winner 0 = 1; lay 0 1 0 = 5; lay 0 0 0 = 1; winner 0 = 1
+            """);
         for (int kind = 0; kind < 4; kind++) {
             Script.run("all but BLANKS are PLAYABLE: " + kind, GAME + "table 0 4 0 = 1; kind 0 2 " + kind + " = 0; deal 0 1 0 = 1; give 0 1 2 = 1;"
                 + (kind < 3 ? "turn 0 = 1; allowed 0 1 0 = 0; lay 0 1 0 = 2; status 0 0 = 2"
@@ -251,9 +255,21 @@ public final class TablesEdgesTest {
             status 0 7 = 0; status 0 8 = 0; turn 0 = -1; winner 0 = -1; trick 0 0 = -1; left 0 0 = -1; left 0 4 = 8; card 0 7 = 0; card 0 8 = -2
             kind 0 0 0 = 0; seat 0 3 true = 1; undo 0 = -4; replay 0 = -4; deal 0 1 0 = 2; deal 0 1 0 = 3; status 0 2 = 2; count 0 = 1; count 1 = 1
             """);
+        Script.run("table(): anew, SUMS are 0", GAME + """
+            table 0 8 0 = 1; seat 0 2 false = 1; deal 0 1 0 = 1; give 0 0 0 = 1; lay 0 0 0 = 0; sum 0 0 = 1; table 1 8 0 = 1; sum 0 0 = 1; table 0 8 0 = 1; sum 0 0 = 0; tie 0 = 2; digest 0 = NEW
+            """.replace("NEW", "" + newDigest()));
         Script.run("table(): a smaller PACK after a larger one has no more CARDS", GAME + """
             table 0 60 0 = 1; deal 0 1 -1 = 1; lay 0 0 0 = CARD; table 0 4 0 = 1; left 0 4 = 4; card 0 4 = -2; won 0 0 2 = 0; deal 0 1 -1 = 2; left 0 4 = 0
             """.replace("CARD", "" + Mixed.cards(60, 1)[0]));
+    }
+
+    /** Four hands that are not dealt, nine times 0, nobody's turn. */
+    private static int newDigest() {
+        int h = 17;
+        for (int k = 0; k < 14; k++) {
+            h = 31 * h + (k < 4 || k == 13 ? -1 : 0);
+        }
+        return h;
     }
 
     private static void seats() {
