@@ -96,7 +96,7 @@ public final class FaceTest {
             due(type + " has twenty fields at most", fields <= 20, true);
             for (Method method : type.getDeclaredMethods()) {
                 due(method + " takes seven at most", method.getParameterCount() <= 7, true);
-                due(method + " has a name of its own", FACE.contains(" " + method.getName() + "("), false);
+                due(method + " has a name of its own", (" " + FACE).contains(" " + method.getName() + "("), false);
             }
         }
     }

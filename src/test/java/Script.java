@@ -4,6 +4,7 @@ import java.util.ArrayList;
 import java.util.HashMap;
 import java.util.List;
 import java.util.Map;
+import java.util.Set;
 
 /** Runs calls that are written as text, "name arguments = answer; ..", each run on a new object. */
 final class Script {
@@ -22,6 +23,10 @@ final class Script {
     }
 
     private Script() {
+    }
+
+    static Set<String> names() {
+        return FACE.keySet();
     }
 
     static void run(String title, String text) {
@@ -108,7 +113,7 @@ final class Script {
         }
     }
 
-    private static void fault(String text) {
+    static void fault(String text) {
         wrong++;
         System.out.println(text);
     }
